@@ -445,7 +445,7 @@ public final class StarHide {
         }
 
         static boolean isRow(int row) {
-            return within(row, 0, ROWS - 1);
+            return row >= 0 && row < ROWS;
         }
 
         boolean put(int row, int from, int by, int n) {
@@ -469,11 +469,11 @@ public final class StarHide {
         }
 
         int inRow(int row) {
-            return isRow(row) ? many[row] : 0;
+            return row < 0 || row >= ROWS ? 0 : many[row];
         }
 
         int nth(int row, int k) {
-            return isRow(row) ? first[row] + step[row] * k : 0;
+            return row < 0 || row >= ROWS ? 0 : first[row] + step[row] * k;
         }
 
         int valueOf(int f, int row) {
@@ -636,10 +636,8 @@ public final class StarHide {
         }
 
         private void judge(Site site, int bit) {
-            for (int f = 0; f < mesh.total && f < Net.MOST_FIGURES; f++) {
-                against[f] &= ~bit;
-            }
             if (!site.isChoosy()) {
+                clearAll(bit);
                 return;
             }
             mesh.measure(site);
@@ -655,10 +653,18 @@ public final class StarHide {
             int step = 2 * (mesh.nth(Net.X, 1) - mesh.nth(Net.X, 0));
             int onward = Math.max(1, mesh.shapes);
             for (int f = shape; f < mesh.total && f < Net.MOST_FIGURES; f += onward) {
-                if (!site.allows(m, lowest, highest)) {
+                if (site.allows(m, lowest, highest)) {
+                    against[f] &= ~bit;
+                } else {
                     against[f] |= bit;
                 }
                 m += step;
+            }
+        }
+
+        private void clearAll(int bit) {
+            for (int f = 0; f < mesh.total && f < Net.MOST_FIGURES; f++) {
+                against[f] &= ~bit;
             }
         }
 
