@@ -293,13 +293,18 @@ public final class PromiseTest {
         due("all fit", s.fitting(), 70);
     }
 
-    private static void figure() {
-        promise = 12;
+    private static StarHide fourRows() {
         StarHide s = new StarHide();
         s.net(0, -10, 3, 2);
         s.net(1, 20, 5, 3);
         s.net(2, 100, 7, 5);
         s.net(3, 200, 11, 7);
+        return s;
+    }
+
+    private static void figure() {
+        promise = 12;
+        StarHide s = fourRows();
         int f = 0;
         for (int i = 0; i < 2; i++) {
             for (int j = 0; j < 3; j++) {
@@ -313,6 +318,8 @@ public final class PromiseTest {
                     }
                 }
             }
+            // One object is not asked more than it promises to answer.
+            s = fourRows();
         }
         due("past the last", s.figure(210, 0), -1000000);
         due("before the first", s.figure(-1, 0), -1000000);
