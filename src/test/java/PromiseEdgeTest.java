@@ -610,6 +610,21 @@ public final class PromiseEdgeTest {
         e.cloud(0);
         e.cloud(1);
         due("clouds are never bad", e.bad(0), 0);
+        badAskedFirst();
+    }
+
+    /** Right after it was told, with nothing asked between. */
+    private static void badAskedFirst() {
+        StarHide e = eightWidths();
+        e.chord(0, -80, -80, 80, 80);
+        due("by the last", e.bad(1), 7);
+        e.chord(0, -70, -70, 70, 70);
+        due("by the last but one", e.bad(1), 6);
+        e.miss(1, 0, 0);
+        e.chord(0, -60, -60, 60, 60);
+        due("not bad", e.isBad(0), 0);
+        e.miss(0, 0, 0);
+        due("bad", e.isBad(0), 1);
     }
 
     private static void badForOthers() {
@@ -847,6 +862,32 @@ public final class PromiseEdgeTest {
         due("all grows with the speed: 551 less 1 is 5500", s.quarrels(2), 1);
         s.ahead(2, 0);
         due("5510 is beyond", s.quarrels(2), 0);
+        quarrelsWithManyCorners();
+    }
+
+    /** Borders that do not come to the miss's height have no say. */
+    private static void quarrelsWithManyCorners() {
+        StarHide s = sitesAt(0, 100, 200, 50, 150, 250, -50);
+        put(s, 0, -10, 10);
+        put(s, 1, -100, 100);
+        put(s, 2, -10, 10);
+        due("six corners", s.inside(0), 6);
+        for (int site = 3; site <= 4; site++) {
+            int[][] in = {{-1000, 1000}, {-1000, -55}, {-1000, 0}, {0, 0}, {0, 1000}, {55, 1000}, {-55, -55}, {55, 55}};
+            for (int[] t : in) {
+                s.miss(site, t[0], t[1]);
+                due("from " + t[0] + " to " + t[1] + " at " + site, s.quarrels(site), 1);
+            }
+            int[][] out = {{-1000, -56}, {56, 1000}, {-56, -56}, {56, 56}};
+            for (int[] t : out) {
+                s.miss(site, t[0], t[1]);
+                due("from " + t[0] + " to " + t[1] + " at " + site, s.quarrels(site), 0);
+            }
+        }
+        for (int site = 5; site <= 6; site++) {
+            s.miss(site, -1000, 1000);
+            due("above and below", s.quarrels(site), 0);
+        }
     }
 
     private static void quarrelsAtTheBorder() {
@@ -872,6 +913,13 @@ public final class PromiseEdgeTest {
         due("left of the half", quarrelOf(s, -5, 0), 0);
         due("right of the half", quarrelOf(s, 1, 5), 0);
         due("over the half", quarrelOf(s, 0, 1), 1);
+        // The same, with the heights as near as can be.
+        StarHide near = sitesAt(0, 2, 1);
+        put(near, 0, 0, 0);
+        put(near, 1, 1, 1);
+        due("left of the half", quarrelOf(near, -5, 0), 0);
+        due("right of the half", quarrelOf(near, 1, 5), 0);
+        due("over the half", quarrelOf(near, 0, 1), 1);
         // A border from 0 to 1 at one side, from 3 to 2 at the other: a half and two and a half.
         put(s, 0, 0, 3);
         put(s, 1, 1, 2);

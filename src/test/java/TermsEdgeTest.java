@@ -239,6 +239,45 @@ public final class TermsEdgeTest {
         s.chord(1, -1000, -1000, -1000, -1000);
         due("the other's place", s.corner(0, 0), -15500);
         due("the other's height", s.corner(0, 1), -2000);
+        placeOfTickForFigures(7, 0, 3);
+        placeOfTickForFigures(-7, 0, 3);
+        placeOfTickForFigures(7, 2, -3);
+        placeOfTickForFigures(-7, -2, 5);
+    }
+
+    /** A figure from x - 10 to x + 10 and a site so far along, with a clock so far ahead, at speed 1. */
+    private static void placeOfTickForFigures(int along, int ticks, int x) {
+        StarHide s = new StarHide();
+        s.speed(1);
+        s.site(0, along);
+        s.ahead(0, ticks);
+        s.net(0, x, 1, 1);
+        s.net(2, 10, 1, 1);
+        int middle = x + along + ticks;
+        s.chord(0, middle - 10, middle - 10, middle + 10, middle + 10);
+        due("a chord of just the figure", s.agrees(0, 0), 1);
+        due("its clocks", s.clock(0, 0), 1);
+        due("its clock", s.clock(0, 1), ticks);
+        s.chord(0, middle - 9, middle - 9, middle + 11, middle + 11);
+        due("one late", s.agrees(0, 0), 0);
+        due("its clock", s.clock(0, 1), ticks + 1);
+        s.chord(0, middle - 11, middle - 11, middle + 9, middle + 9);
+        due("one early", s.agrees(0, 0), 0);
+        due("its clock", s.clock(0, 1), ticks - 1);
+        s.miss(0, middle + 10, middle + 20);
+        due("a miss from its end on", s.agrees(0, 0), 1);
+        s.miss(0, middle + 9, middle + 20);
+        due("a miss from one before on", s.agrees(0, 0), 0);
+        s.miss(0, middle - 20, middle - 10);
+        due("a miss up to its end", s.agrees(0, 0), 1);
+        s.miss(0, middle - 20, middle - 9);
+        due("a miss up to one after", s.agrees(0, 0), 0);
+        s.even(0);
+        s.dip(0, middle - 20, middle + 20);
+        due("a dip about its middle", s.ring(0, 0), 1);
+        due("20 off", s.ring(0, 1), 400);
+        s.speed(2);
+        due("all that is told moves with the speed", s.place(0, middle), 2 * (x + along) - along);
     }
 
     /** An ellipse with a whole half width of w at its middle's height; a site there, speed 1. */
@@ -530,6 +569,40 @@ public final class TermsEdgeTest {
             }
         }
         lastFigure();
+        eachByItsOwnNumbers();
+    }
+
+    /** Of 16 figures just one is as told: it is the one whose numbers are those. */
+    private static void eachByItsOwnNumbers() {
+        for (int f = 0; f < 16; f++) {
+            StarHide s = new StarHide();
+            s.speed(1);
+            s.net(0, -5, 7, 2);
+            s.net(1, -30, 50, 2);
+            s.net(2, 100, 40, 2);
+            s.net(3, 100, 70, 2);
+            int y = s.figure(f, 1);
+            int first = s.figure(f, 0) - s.figure(f, 2);
+            int last = s.figure(f, 0) + s.figure(f, 2);
+            s.site(y, 0);
+            s.chord(0, first, first, last, last);
+            // At its own height each h is as wide; just below its top only one of both h goes.
+            due("those of one x, y and w", s.fitting(), 2);
+            due("the first of them", s.fits(0), f / 2 * 2);
+            s.site(y + 101, 0);
+            if (f % 2 == 0) {
+                s.miss(1, -1000, 1000);
+            } else {
+                s.chord(1, -1000, 0, 0, 1000);
+            }
+            due("the one", s.fitting(), 1);
+            due("its number", s.fits(0), f);
+            for (int g = 0; g < 16; g++) {
+                due("figure " + g + " and what was told of " + f, s.agrees(g, 0), g / 2 == f / 2 ? 1 : 0);
+            }
+            due("its clock", s.clock(0, 1), f < 8 ? -7 : 0);
+            due("its clock", s.clock(0, 2), f < 8 ? 0 : 7);
+        }
     }
 
     private static void lastFigure() {
@@ -625,11 +698,31 @@ public final class TermsEdgeTest {
         s.net(0, -500, 1, 1);
         s.chord(0, -1000, -1000, 0, 0);
         due("the same at the other side", s.agrees(0, 0), 1);
+        for (int w : new int[] {1, 2, 3, 4, 7, 8, 9, 127, 128, 129, 511, 512, 513, 1023, 1024, 1025, 1535, 1536, 1999,
+            2000}) {
+            halfWidthAtTheMiddle(w);
+        }
         // 2000 wide and 2000 high: at 1200 off it is 1600 half wide, which ticks reach at speed 2.
         StarHide wide = over(0, 2000, 2000, 1200);
         wide.speed(2);
         wide.chord(0, -800, -800, 800, 800);
         due("the widest", wide.agrees(0, 0), 1);
+    }
+
+    private static void halfWidthAtTheMiddle(int w) {
+        StarHide s = new StarHide();
+        s.speed(2);
+        int odd = w % 2;
+        s.site(0, odd);
+        s.net(2, w, 1, 1);
+        int first = (odd - w) / 2;
+        int last = (odd + w) / 2;
+        s.chord(0, first, first, last, last);
+        due("just " + w, s.agrees(0, 0), 1);
+        s.chord(0, first, first, last - 1, last - 1);
+        due("less than " + w, s.agrees(0, 0), 0);
+        s.chord(0, first - 1, first - 1, last, last);
+        due("more than " + w, s.agrees(0, 0), 0);
     }
 
     private static void atOthersNowhere() {
@@ -1022,6 +1115,18 @@ public final class TermsEdgeTest {
         dueCorners(s, 1, 0, 3, 200);
         put(s, 1, 1, 1);
         dueCorners(s, 1, 0, 3, 200, 1, 100);
+        // Lines that are all but level, to each side, with the farthest place told first, amidst and last.
+        for (int side = -1; side <= 1; side += 2) {
+            for (int far = 0; far < 3; far++) {
+                StarHide flat = sitesAt(0, 1, 2, 3);
+                put(flat, 0, 0, 0);
+                for (int i = 0; i < 3; i++) {
+                    int k = 1 + (i + far) % 3;
+                    put(flat, k, side * 300 * k, side * 300 * k);
+                }
+                dueCorners(flat, 0, 0, side * 900, 3);
+            }
+        }
         StarHide line = sitesAt(20, 10, 40, 30, 50);
         for (int i = 0; i < 5; i++) {
             put(line, i, 0, 0);
