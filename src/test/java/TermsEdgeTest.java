@@ -569,7 +569,41 @@ public final class TermsEdgeTest {
             }
         }
         lastFigure();
+        rowsOfOneAmongOthers();
         eachByItsOwnNumbers();
+    }
+
+    /** Each row is once of one and once of three: a row of one has no say in the numbers of the others. */
+    private static void rowsOfOneAmongOthers() {
+        for (int rows = 0; rows < 16; rows++) {
+            StarHide s = new StarHide();
+            s.speed(1);
+            s.site(0, 0);
+            int[] many = new int[4];
+            for (int row = 0; row < 4; row++) {
+                many[row] = (rows >> row & 1) == 0 ? 1 : 3;
+                s.net(row, row < 2 ? 0 : 100, 10, many[row]);
+            }
+            s.chord(0, -100, -100, 100, 100);
+            int f = 0;
+            for (int i = 0; i < many[0]; i++) {
+                for (int j = 0; j < many[1]; j++) {
+                    for (int k = 0; k < many[2]; k++) {
+                        for (int l = 0; l < many[3]; l++) {
+                            due("x of " + f, s.figure(f, 0), 10 * i);
+                            due("y of " + f, s.figure(f, 1), 10 * j);
+                            due("w of " + f, s.figure(f, 2), 100 + 10 * k);
+                            due("h of " + f, s.figure(f, 3), 100 + 10 * l);
+                            // Only middles at 0, 0 and a half width of 100 have those ends, whatever h is.
+                            due("agrees " + f, s.agrees(f, 0), i == 0 && j == 0 && k == 0 ? 1 : 0);
+                            f++;
+                        }
+                    }
+                }
+            }
+            due("figures", s.figures(), f);
+            due("those that fit", s.fitting(), many[3]);
+        }
     }
 
     /** Of 16 figures just one is as told: it is the one whose numbers are those. */
