@@ -5,6 +5,7 @@ import java.lang.reflect.Method;
 import java.lang.reflect.Modifier;
 import java.nio.file.Files;
 import java.nio.file.Path;
+import java.util.List;
 import java.util.Set;
 import java.util.TreeSet;
 import java.util.regex.Matcher;
@@ -23,7 +24,8 @@ public final class FaceTest {
 
     private static final String[] FORBIDDEN = {"throw", "throws", "try", "catch", "finally", "synchronized", "assert",
         "static\\s*\\{", "->", "::", "package", "volatile", "native", "transient", "new\\s+Thread", "System\\.(?!arraycopy)",
-        "\\w+Exact\\s*\\(", "Math\\.(random|sqrt|pow|floor|ceil)\\s*\\(", "var\\s", "hashCode", "toString", "protected"};
+        "\\w+Exact\\s*\\(", "Math\\.(random|sqrt|pow|floor|ceil)\\s*\\(", "var\\s", "hashCode", "toString", "protected",
+        "while\\s*\\(\\s*true", "for\\s*\\([^;]*;\\s*;", "double", "float", "random"};
 
     private static int wrong = 0;
 
@@ -36,6 +38,7 @@ public final class FaceTest {
         checkMethods();
         checkRest();
         checkSource();
+        checkLengths();
         System.out.println(wrong == 0 ? "the face and the source are as due" : wrong + " faults");
         if (wrong != 0) {
             System.exit(1);
@@ -91,7 +94,11 @@ public final class FaceTest {
             fault("there is not just one public constructor without arguments");
         }
         for (Class<?> c : withNested()) {
-            if (c.getDeclaredFields().length > 30) {
+            int own = 0;
+            for (Field f : c.getDeclaredFields()) {
+                own += Modifier.isStatic(f.getModifiers()) ? 0 : 1;
+            }
+            if (own > 20) {
                 fault("too many fields: " + c);
             }
             for (Field f : c.getDeclaredFields()) {
@@ -125,6 +132,34 @@ public final class FaceTest {
             if (!Set.of("java.util.Arrays", "java.util.ArrayList", "java.util.List").contains(imports.group(1))) {
                 fault("import of " + imports.group(1));
             }
+        }
+    }
+
+    /** No method over sixty lines: a method is what opens in a class and is no class. */
+    private static void checkLengths() throws IOException {
+        int depth = 0;
+        int start = -1;
+        int startDepth = 0;
+        List<String> lines = Files.readAllLines(Path.of("src/main/java/StarHide.java"));
+        for (int i = 0; i < lines.size(); i++) {
+            String line = lines.get(i);
+            boolean opens = line.endsWith("{") && !line.contains(" class ");
+            if (start < 0 && opens && line.contains(")")) {
+                start = i;
+                startDepth = depth;
+            }
+            for (char sign : line.toCharArray()) {
+                depth += sign == '{' ? 1 : sign == '}' ? -1 : 0;
+            }
+            if (start >= 0 && depth <= startDepth) {
+                if (i - start > 60) {
+                    fault("a long method: " + lines.get(start).trim());
+                }
+                start = -1;
+            }
+        }
+        if (depth != 0) {
+            fault("braces are not even, so lengths are not known");
         }
     }
 }
